@@ -10,6 +10,7 @@ public final class ActsTest {
         lift();
         watch();
         undoEachAct();
+        undoStackAndCopies();
         undoAtMost14();
         undoAndActAgain();
         due.end();
@@ -182,6 +183,30 @@ public final class ActsTest {
             case 7: x.watch(1); break;
             case 8: x.plan(3); break;
             default: x.set(2, 0, 0); break;
+        }
+    }
+
+    private static void undoStackAndCopies() {
+        SideStep x = Due.coded("Cc04c04hhb");
+        x.plan(0);
+        due.is("stack(0)", x.stack(0), 1);
+        x.plan(0);
+        x.plan(0);
+        due.is("stack(0)", x.stack(0), 2);
+        x.undo();
+        x.undo();
+        due.is("stack(0)", x.stack(0), 1);
+        SideStep y = Due.coded("Ci00i01i02i03i04h");
+        for (int place = 1; place <= 4; place++) {
+            y.smash(place, -9, 0, 0, 0);
+        }
+        for (int i = 0; i < 5; i++) {
+            y.plan(0);
+        }
+        due.is("copy(0)", y.copy(0), 2);
+        y.undo();
+        for (int i = 0; i < 3; i++) {
+            due.is("copy(" + i + ")", y.copy(i), i + 1);
         }
     }
 

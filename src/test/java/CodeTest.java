@@ -148,6 +148,9 @@ public final class CodeTest {
         due.is("code() of no instruction", x.code(), 0);
         due.is("no instruction", x.about(0), 0);
         due.is("plan(0)", x.plan(0), 4);
+        Due.write(x, "Ci09");
+        Due.write(x, "Ci0");
+        due.is("what was wiped does not count", x.fault(), 3);
     }
 
     private static void codeBeginsAnew() {

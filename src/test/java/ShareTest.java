@@ -142,6 +142,36 @@ public final class ShareTest {
         chance(x, 2, 0, 1, 1);
         chance(x, 2, 5, 1, 4);
         chance(x, 1, 5, 1, 2);
+        limitToTheStep();
+    }
+
+    private static void limitToTheStep() {
+        SideStep x = Due.coded("C+01j-1");
+        x.set(0, 1, 1);
+        x.set(0, 0, -41);
+        x.smash(0, 0, 1, 9, 0);
+        // Applies after the 100th step.
+        share(x, 0, 0, 1);
+        x.set(0, 0, -40);
+        share(x, 0, 1, 1);
+        // Place 1 applies after the 5th step, place 0 after the 104th: 99 steps later.
+        SideStep y = Due.coded("C+01+21o3j-3");
+        y.set(0, 1, 1);
+        y.set(0, 0, -2);
+        y.set(0, 2, -26);
+        y.smash(1, 0, 1, 0, 0);
+        y.smash(0, 2, 1, 0, 0);
+        share(y, 1, 3, 2);
+        share(y, 0, 1, 2);
+        // Place 1 applies after the 4th step, place 2 after the 104th: 100 steps later.
+        SideStep z = Due.coded("C+01+21j-2");
+        z.set(0, 1, 1);
+        z.set(0, 0, -2);
+        z.set(0, 2, -35);
+        z.smash(1, 0, 1, 0, 0);
+        z.smash(2, 2, 1, 0, 0);
+        share(z, 1, 1, 1);
+        share(z, 2, 0, 1);
     }
 
     private static void ignoreCountsAndConditions() {
