@@ -280,7 +280,7 @@ public final class SideStep {
         return NONE;
     }
 
-    /** The three digits before which so many statements stand, counted from the row's end. */
+    /** The statement that has fromEnd others behind it. */
     private static int statementAt(long row, int fromEnd) {
         long rest = row;
         for (int i = 0; i < fromEnd; i++) {
