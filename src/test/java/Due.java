@@ -1,11 +1,17 @@
 /** Compares answers with those that are due, and ends a test. */
 final class Due {
     private int wrong;
+    private String sentence = "";
+
+    /** Names the sentence of the document that is looked at from here on. */
+    void of(String itsSentence) {
+        sentence = itsSentence + ": ";
+    }
 
     void is(String call, long got, long want) {
         if (got != want) {
             wrong++;
-            System.out.println(call + " answered " + got + ", due is " + want);
+            System.out.println(sentence + call + " answered " + got + ", due is " + want);
         }
     }
 
@@ -36,6 +42,13 @@ final class Due {
             throw new IllegalStateException("no program: " + text);
         }
         return x;
+    }
+
+    /** Performs the plan ONE a number of times. */
+    static void steps(SideStep x, int many) {
+        for (int i = 0; i < many; i++) {
+            x.plan(0);
+        }
     }
 
     /** All that can be asked of the present state without changing it. */
