@@ -44,6 +44,13 @@ final class Due {
         return x;
     }
 
+    /** Compares all that broken() answers for a place. */
+    void brokenIs(SideStep x, int place, int... want) {
+        for (int what = 0; what <= 5; what++) {
+            is("broken(" + place + ", " + what + ")", x.broken(place, what), want[what]);
+        }
+    }
+
     /** Performs the plan ONE a number of times. */
     static void steps(SideStep x, int many) {
         for (int i = 0; i < many; i++) {

@@ -19,6 +19,8 @@ public final class EdgeActsTest {
         undoReturns();
         undoneIsNotDoneAgain();
         undoOfEachAct();
+        undoOfTheStack();
+        undoOfBreakpoints();
         undoLeavesTheOthers();
         due.end();
     }
@@ -288,6 +290,61 @@ public final class EdgeActsTest {
             case 11: x.lift(1); break;
             case 12: x.set(2, 0, 8); break;
             default: x.plan(3); break;
+        }
+    }
+
+    private static void undoOfTheStack() {
+        due.of("promise 17: the places on the stack are as before it, from none to eight");
+        SideStep x = Due.coded("Cc01c02c03c04c05c06c07c08h");
+        Due.steps(x, 8);
+        // Four places go by undo(), and four others come.
+        for (int i = 0; i < 4; i++) {
+            x.undo();
+        }
+        for (int i = 0; i < 4; i++) {
+            x.set(2, 0, 7 - i);
+            x.plan(0);
+        }
+        int[] others = {1, 2, 3, 4, 8, 7, 6, 5};
+        for (int i = 0; i < 8; i++) {
+            due.is("stack(" + i + ")", x.stack(i), others[i]);
+        }
+        for (int depth = 7; depth >= 0; depth--) {
+            x.undo();
+            if (depth >= 4) {
+                x.undo();
+            }
+            for (int i = 0; i <= 8; i++) {
+                due.is("stack(" + i + ") of " + depth, x.stack(i), i < depth ? others[i] : -9);
+            }
+        }
+    }
+
+    private static void undoOfBreakpoints() {
+        due.of("promise 17: the breakpoints are as before it, at the first and the last place");
+        for (int place : new int[] {0, 15}) {
+            SideStep x = Due.coded("C" + "j+0".repeat(16));
+            x.set(2, 0, place);
+            x.smash(place, -9, 0, 0, 0);
+            due.is("a hit", x.plan(0), 1);
+            x.smash(place, 0, 0, 9, 8);
+            due.is("ignored", x.plan(0), 0);
+            x.smash(place, 3, 2, 1, 5);
+            due.brokenIs(x, place, 3, 3, 2, 1, 5, 1);
+            x.undo();
+            due.brokenIs(x, place, 2, 0, 0, 9, 7, 1);
+            x.undo();
+            due.brokenIs(x, place, 2, 0, 0, 9, 8, 1);
+            x.undo();
+            due.brokenIs(x, place, 1, -9, -9, -9, 0, 1);
+            x.lift(place);
+            due.brokenIs(x, place, 0, -9, -9, -9, 0, 0);
+            x.undo();
+            due.brokenIs(x, place, 1, -9, -9, -9, 0, 1);
+            x.undo();
+            due.brokenIs(x, place, 1, -9, -9, -9, 0, 0);
+            x.undo();
+            due.brokenIs(x, place, 0, -9, -9, -9, 0, 0);
         }
     }
 

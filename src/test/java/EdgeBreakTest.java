@@ -146,12 +146,8 @@ public final class EdgeBreakTest {
         x.smash(0, 3, 2, 9, 9);
         x.smash(1, 1, 1, 1, 1);
         x.smash(0, 0, 0, 0, 0);
-        int[] first = {2, 0, 0, 0, 0, 0};
-        int[] second = {1, 1, 1, 1, 1, 0};
-        for (int what = 0; what <= 5; what++) {
-            due.is("broken(0, " + what + ")", x.broken(0, what), first[what]);
-            due.is("broken(1, " + what + ")", x.broken(1, what), second[what]);
-        }
+        due.brokenIs(x, 0, 2, 0, 0, 0, 0, 0);
+        due.brokenIs(x, 1, 1, 1, 1, 1, 1, 0);
         x.smash(0, -9, 0, 0, 9);
         due.is("no condition any more", x.broken(0, 1), -9);
         due.is("ignore count", x.broken(0, 4), 9);
@@ -282,10 +278,7 @@ public final class EdgeBreakTest {
         x.smash(0, 3, 2, 9, 8);
         for (int left = 2; left >= 1; left--) {
             due.is("lift(0)", x.lift(0), left);
-            int[] stay = {left, 3, 2, 9, 8, 1};
-            for (int what = 0; what <= 5; what++) {
-                due.is("broken(0, " + what + ")", x.broken(0, what), stay[what]);
-            }
+            due.brokenIs(x, 0, left, 3, 2, 9, 8, 1);
             due.is("armed", x.about(6), 1);
         }
         due.is("lift(0)", x.lift(0), 0);

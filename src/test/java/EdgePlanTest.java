@@ -33,6 +33,7 @@ public final class EdgePlanTest {
         overIsDone();
         finishIsDone();
         runIsNeverDone();
+        fiveHundredAndTwelveCalls();
         due.end();
     }
 
@@ -521,6 +522,21 @@ public final class EdgePlanTest {
         due.is("FINISH the inner call alone", x.plan(2), 0);
         due.is("one place", x.about(2), 1);
         due.is("counter", x.about(1), 4);
+    }
+
+    private static void fiveHundredAndTwelveCalls() {
+        due.of("an object is used for at most 512 calls");
+        // Wiping, writing and coding are 6 calls, and the two questions at the end the last ones.
+        SideStep x = Due.coded("Cj+0");
+        x.smash(0, 0, 2, 9, 9);
+        for (int m = 0; m < 3; m++) {
+            x.watch(m);
+        }
+        for (int calls = 11; calls <= 510; calls++) {
+            due.is("call " + calls, x.plan(3), 5);
+        }
+        due.is("clock", x.about(10), 500 * 99);
+        due.is("cost", x.about(9), 500 * 99 * 13);
     }
 
     private static void runIsNeverDone() {

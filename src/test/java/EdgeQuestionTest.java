@@ -20,6 +20,7 @@ public final class EdgeQuestionTest {
         freeHaltedAlready();
         freeWithoutBreakpointsAndWatchedCells();
         freePutsInAll();
+        freeWithThePresentStack();
         judgeNumbers();
         judgeRows();
         judgeLeadingZeros();
@@ -235,6 +236,27 @@ public final class EdgeQuestionTest {
         x.plan(3);
         freeIs(x, 3, 0, 2, -32);
         freeIs(Due.coded("Co0j-1"), 5, 300, 150, 0);
+    }
+
+    private static void freeWithThePresentStack() {
+        due.of("a free run: a copy of the machine, with its stack");
+        SideStep x = Due.coded("Cc04ho0hb");
+        freeIs(x, 3, 3, 0, 0);
+        x.plan(0);
+        freeIs(x, 3, 2, 0, 0);
+        x.undo();
+        x.set(2, 0, 1);
+        x.plan(3);
+        freeIs(x, 3, 0, 0, 0);
+        x.set(2, 0, 4);
+        freeIs(x, 4, 0, 0, 0);
+        // Eight places, each the one behind another CALL.
+        SideStep y = Due.coded("Cc01c02c03c04c05c06c07c09hb");
+        Due.steps(y, 8);
+        freeIs(y, 3, 2, 0, 0);
+        due.is("in a judged plan", y.judge(2, 100308L), -9);
+        due.is("and FINISH", y.judge(3, 102308607L), -9);
+        due.is("stack(7)", y.stack(7), 8);
     }
 
     private static void judgeNumbers() {

@@ -270,6 +270,13 @@ public final class EdgeShareTest {
 
     private static void haltedAlready() {
         due.of("promise 24: a machine that has halted makes no stop");
+        SideStep y = Due.coded("Cj+0h");
+        y.smash(0, -9, 0, 0, 0);
+        share(y, 0, 20, 1);
+        y.set(2, 0, 1);
+        y.plan(0);
+        share(y, 0, 0, 1);
+        chance(y, 1, 0, 0, 1);
         SideStep x = Due.coded("Ch");
         x.smash(0, -9, 0, 0, 0);
         share(x, 0, 0, 1);
@@ -289,6 +296,12 @@ public final class EdgeShareTest {
             share(x, 0, 0, 1);
             chance(x, 1, 0, 0, 1);
         }
+        SideStep z = Due.coded("Cj+0j+1");
+        z.smash(0, -9, 0, 0, 0);
+        share(z, 0, 20, 1);
+        z.set(2, 0, 1);
+        z.plan(0);
+        share(z, 0, 0, 1);
         SideStep y = Due.coded("C" + "h".repeat(15) + "j+1");
         y.smash(15, -9, 0, 0, 0);
         y.smash(0, -9, 0, 0, 0);

@@ -14,6 +14,8 @@ public final class EdgeSlotTest {
         noActsThen();
         refusedAgainKeepsActs();
         allIsKept();
+        theStackIsKept();
+        breakpointsAreKept();
         theOthersStay();
         codeEmptiesTheSlots();
         due.end();
@@ -187,6 +189,40 @@ public final class EdgeSlotTest {
         due.is("not halted in slot 0", y.about(3), 0);
         y.again(1);
         due.is("halted in slot 1", y.about(3), 1);
+    }
+
+    private static void theStackIsKept() {
+        due.of("promise 28: the places on the stack, none and eight");
+        SideStep x = Due.coded("Cc01c02c03c04c05c06c07c08" + "h".repeat(7) + "c15");
+        x.keep(0);
+        Due.steps(x, 8);
+        x.keep(1);
+        x.again(0);
+        due.is("slot 0", x.stack(0), -9);
+        x.set(2, 0, 15);
+        Due.steps(x, 8);
+        due.is("others", x.stack(7), 16);
+        x.again(1);
+        for (int i = 0; i <= 8; i++) {
+            due.is("stack(" + i + ") of slot 1", x.stack(i), i < 8 ? i + 1 : -9);
+        }
+    }
+
+    private static void breakpointsAreKept() {
+        due.of("promise 28: the breakpoints of the first and the last place");
+        for (int place : new int[] {0, 15}) {
+            SideStep x = Due.coded("C" + "j+0".repeat(16));
+            x.keep(0);
+            x.set(2, 0, place);
+            x.smash(place, -9, 0, 0, 0);
+            x.plan(0);
+            x.smash(place, 3, 2, 9, 9);
+            x.keep(1);
+            x.again(0);
+            due.brokenIs(x, place, 0, -9, -9, -9, 0, 0);
+            x.again(1);
+            due.brokenIs(x, place, 2, 3, 2, 9, 9, 1);
+        }
     }
 
     private static void theOthersStay() {

@@ -215,39 +215,30 @@ public final class EdgeStateTest {
             due.is("broken(" + place + ", MIN)", x.broken(place, Integer.MIN_VALUE), -2);
             due.is("broken(" + place + ", MAX)", x.broken(place, Integer.MAX_VALUE), -2);
         }
-        int[] all = {1, 3, 2, 9, 8, 0};
-        for (int what = 0; what <= 5; what++) {
-            due.is("broken(15, " + what + ")", x.broken(15, what), all[what]);
-        }
+        due.brokenIs(x, 15, 1, 3, 2, 9, 8, 0);
     }
 
     private static void brokenOfNotArmed() {
         due.of("promise 10: NONE if the place is not armed or has no condition; 0 if it is not armed");
         SideStep x = Due.coded("Cj+0");
-        brokenIs(x, 0, -9, -9, -9, 0, 0);
+        due.brokenIs(x, 0, 0, -9, -9, -9, 0, 0);
         x.smash(0, 0, 0, 0, 0);
-        brokenIs(x, 1, 0, 0, 0, 0, 0);
+        due.brokenIs(x, 0, 1, 0, 0, 0, 0, 0);
         x.plan(3);
         x.plan(0);
         x.smash(0, -9, 2, 9, 9);
-        brokenIs(x, 2, -9, -9, -9, 9, 0);
+        due.brokenIs(x, 0, 2, -9, -9, -9, 9, 0);
         x.smash(0, 3, 2, 9, 1);
-        brokenIs(x, 3, 3, 2, 9, 1, 0);
+        due.brokenIs(x, 0, 3, 3, 2, 9, 1, 0);
         for (int i = 0; i < 3; i++) {
             x.lift(0);
         }
-        brokenIs(x, 0, -9, -9, -9, 0, 0);
+        due.brokenIs(x, 0, 0, -9, -9, -9, 0, 0);
         x.smash(0, -9, 0, 0, 0);
         x.plan(0);
-        brokenIs(x, 1, -9, -9, -9, 0, 1);
+        due.brokenIs(x, 0, 1, -9, -9, -9, 0, 1);
         x.lift(0);
-        brokenIs(x, 0, -9, -9, -9, 0, 0);
-    }
-
-    private static void brokenIs(SideStep x, int... want) {
-        for (int what = 0; what <= 5; what++) {
-            due.is("broken(0, " + what + ")", x.broken(0, what), want[what]);
-        }
+        due.brokenIs(x, 0, 0, -9, -9, -9, 0, 0);
     }
 
     private static void copyRange() {

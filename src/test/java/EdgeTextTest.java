@@ -268,11 +268,8 @@ public final class EdgeTextTest {
         due.is("all are armed", x.about(6), 65535);
         due.is("code()", x.code(), 16);
         due.is("none is armed", x.about(6), 0);
-        int[] none = {0, -9, -9, -9, 0, 0};
         for (int place = 0; place < 16; place++) {
-            for (int what = 0; what <= 5; what++) {
-                due.is("broken(" + place + ", " + what + ")", x.broken(place, what), none[what]);
-            }
+            due.brokenIs(x, place, 0, -9, -9, -9, 0, 0);
         }
         for (int place = 0; place < 16; place++) {
             due.is("lift(" + place + ")", x.lift(place), -3);
